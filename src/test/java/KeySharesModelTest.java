@@ -19,6 +19,8 @@ public final class KeySharesModelTest {
     private static final int[] SIZES = {2, 3, 5, 7, 11, 13, 31, 37, 97, 101, 499, 991, 997};
     private static final long[] IDS = {0, 1, -1, 2, Long.MIN_VALUE, Long.MAX_VALUE, Long.MIN_VALUE + 1, 77};
 
+    private static final long[] EXTREMES = {Integer.MIN_VALUE, Integer.MAX_VALUE, -1, 0, 31, 32, 997, 300, 301};
+
     private KeySharesModelTest() {
     }
 
@@ -59,6 +61,9 @@ public final class KeySharesModelTest {
     }
 
     private static long first(Random random, String name, int run) {
+        if (random.nextInt(60) == 0) {
+            return EXTREMES[random.nextInt(EXTREMES.length)];
+        }
         switch (name) {
             case "hash": return random.nextLong();
             case "backend": return random.nextInt(3) > 0 ? random.nextLong() : IDS[random.nextInt(IDS.length)];
@@ -74,6 +79,9 @@ public final class KeySharesModelTest {
     }
 
     private static long second(Random random, String name) {
+        if (random.nextInt(60) == 0) {
+            return EXTREMES[random.nextInt(EXTREMES.length)];
+        }
         switch (name) {
             case "hash": return random.nextInt();
             case "backend", "weigh": return random.nextInt(10) > 0 ? 1 + random.nextInt(8) : random.nextInt(12) - 2;
