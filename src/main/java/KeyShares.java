@@ -274,6 +274,7 @@ public final class KeyShares {
     private static final class Backend {
         private final int number;
         private final long name;
+        // Hash 4 of the id goes into each score, so it is made but once.
         private final long salt;
         private int weight;
         private boolean up;
@@ -321,6 +322,7 @@ public final class KeyShares {
         }
     }
 
+    /** Kept by number for the calls, and by id, the least first, for the turns at the table and for equal scores. */
     private static final class Backends {
         private final Backend[] byNumber = new Backend[MOST_BACKENDS];
         private final Backend[] byId = new Backend[MOST_BACKENDS];
@@ -331,7 +333,7 @@ public final class KeyShares {
         }
 
         Backend inOrderOfIds(int i) {
-            return i < 0 || i >= held || i >= MOST_BACKENDS ? null : byId[i];
+            return i < 0 || i >= held ? null : byId[i];
         }
 
         boolean hasId(long name) {
@@ -363,9 +365,6 @@ public final class KeyShares {
                     byId[kept] = byId[i];
                     kept++;
                 }
-            }
-            for (int i = kept; i < held; i++) {
-                byId[i] = null;
             }
             held = kept;
         }
@@ -411,6 +410,7 @@ public final class KeyShares {
         }
     }
 
+    /** It keeps numbers, not backends: a slot tells who took it also when that one is no more. */
     private static final class Table {
         private final int[] takers = new int[MOST_SLOTS];
         private final int[] before = new int[MOST_SLOTS];

@@ -273,6 +273,19 @@ public final class KeySharesPromisesTest {
         due(9, "fill(), 31 up for 31 slots", full.fill(), NONE);
         full.state(1, 0);
         due(9, "fill(), 30 up for 31 slots", full.fill(), 31);
+        full.state(0, 1);
+        full.state(1, 1);
+        full.size(997);
+        due(9, "fill(), 32 up for 997 slots", full.fill(), 997);
+        due(9, "fill() again", full.fill(), 0);
+        // The largest table by the most backends: 6 rounds of 144 slots, and the least ids part of one more.
+        int taken = 0;
+        for (int b = 0; b < 32; b++) {
+            int fewest = 6 * (1 + b % 8);
+            DUE.holds("promise 9: rounds of " + b, full.of(b, 4) >= fewest && full.of(b, 4) <= fewest + 1 + b % 8);
+            taken += full.of(b, 4);
+        }
+        due(9, "all slots", taken, 997);
     }
 
     /** Every slot of one table: who takes first, how often, and where each goes on. */
@@ -557,6 +570,11 @@ public final class KeySharesPromisesTest {
         due(16, "of(0, 4), being down", x.of(0, 4), 68);
         due(16, "of(1, 2)", x.of(1, 2), 7);
         due(16, "of(1, 3): all weights are its own", x.of(1, 3), 28);
+        KeyShares y = new KeyShares();
+        y.slack(1);
+        y.backend(5, 1);
+        y.come(1);
+        due(16, "of(0, 3): 101 / 100", y.of(0, 3), 2);
     }
 
     private static void promise17() {
