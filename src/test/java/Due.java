@@ -2,8 +2,14 @@
 final class Due {
     private static final int MOST_TOLD = 40;
 
+    private String within = "";
     private int asked;
     private int wrong;
+
+    /** What comes now is part of this: told with each answer that is not as due. */
+    void begin(String part) {
+        within = part + ": ";
+    }
 
     void is(String call, long got, long want) {
         asked++;
@@ -23,6 +29,10 @@ final class Due {
         return wrong > 0;
     }
 
+    int asked() {
+        return asked;
+    }
+
     void end() {
         System.out.println(asked + " answers, " + wrong + " of them not as due");
         if (wrong > 0 || asked == 0) {
@@ -33,7 +43,7 @@ final class Due {
     private void tell(String line) {
         wrong++;
         if (wrong <= MOST_TOLD) {
-            System.out.println(line);
+            System.out.println(within + line);
         }
     }
 }

@@ -4,7 +4,7 @@ import java.util.Arrays;
 /** Each promise of the document by itself: ordinary inputs, the edges that it names, wrong inputs. */
 public final class KeySharesPromisesTest {
     private static final int NONE = -1;
-    private static final long STRIDE = 0x9E3779B97F4A7C15L;
+    private static final long STRIDE = Hashes.STRIDE;
     private static final int[] WRONG_NUMBERS = {-1, 31, 32, 33, Integer.MIN_VALUE, Integer.MAX_VALUE};
 
     private static final Due DUE = new Due();
@@ -79,7 +79,7 @@ public final class KeySharesPromisesTest {
         int[] nths = {0, 1, 4, -1, -4, 1000, Integer.MAX_VALUE, Integer.MIN_VALUE};
         for (long value : some) {
             for (int k : nths) {
-                due(2, "hash(" + value + ", " + k + ")", x.hash(value, k), bigHash(value, k).longValue());
+                due(2, "hash(" + value + ", " + k + ")", x.hash(value, k), Hashes.hash(value, k));
             }
         }
     }
@@ -307,10 +307,10 @@ public final class KeySharesPromisesTest {
         while (taken < p) {
             for (int b : numbersByIds) {
                 for (int turn = 0; turn < weights[b] && taken < p; turn++) {
-                    while (want[orderOf(ids[b], p, nth[b])] != NONE) {
+                    while (want[Hashes.orderOf(ids[b], p, nth[b])] != NONE) {
                         nth[b]++;
                     }
-                    want[orderOf(ids[b], p, nth[b])] = b;
+                    want[Hashes.orderOf(ids[b], p, nth[b])] = b;
                     taken++;
                 }
             }
@@ -365,7 +365,7 @@ public final class KeySharesPromisesTest {
         x.state(2, 0);
         x.remove(3);
         for (long key : some) {
-            int k = bigHash(key, 3).mod(BigInteger.valueOf(13)).intValue();
+            int k = Hashes.slot(key, 13);
             due(11, "lookup(" + key + ")", x.lookup(key), x.slot(k));
         }
         // Hash 3 of 0, as published for SplitMix64.
@@ -401,7 +401,7 @@ public final class KeySharesPromisesTest {
 
     private static void promise12Ties() {
         for (int seed = 1; seed <= 20; seed++) {
-            long[] ids = idsWithEqualBests(seed, 12345);
+            long[] ids = Hashes.idsWithEqualBests(seed, 12345);
             int least = Long.compareUnsigned(ids[0], ids[1]) < 0 ? 0 : 1;
             KeyShares x = new KeyShares();
             x.backend(ids[0], 1);
@@ -424,11 +424,8 @@ public final class KeySharesPromisesTest {
         for (int weight = 1; weight <= 8; weight++) {
             x.backend(-weight, weight);
             for (long key : some) {
-                BigInteger top = BigInteger.ZERO;
-                for (int c = 1; c <= weight; c++) {
-                    top = top.max(bigHash(key ^ bigHash(-weight, 4).longValue(), c));
-                }
-                due(13, "best(" + key + ", " + (weight - 1) + ")", x.best(key, weight - 1), top.longValue());
+                due(13, "best(" + key + ", " + (weight - 1) + ")", x.best(key, weight - 1),
+                    Hashes.best(-weight, weight, key));
             }
         }
         long up = x.best(77, 3);
@@ -492,7 +489,7 @@ public final class KeySharesPromisesTest {
 
     private static void promise14Ties() {
         for (int seed = 1; seed <= 20; seed++) {
-            long[] ids = idsWithEqualBests(seed, -9);
+            long[] ids = Hashes.idsWithEqualBests(seed, -9);
             int least = Long.compareUnsigned(ids[0], ids[1]) < 0 ? 0 : 1;
             KeyShares x = new KeyShares();
             x.backend(ids[0], 1);
@@ -556,7 +553,7 @@ public final class KeySharesPromisesTest {
             BigInteger step = new BigInteger("6E789E6AA1B965F4", 16).mod(BigInteger.valueOf(p - 1));
             due(16, "of(0, 5) by " + p, x.of(0, 5), offset.intValue());
             due(16, "of(0, 6) by " + p, x.of(0, 6), step.intValue() + 1);
-            due(16, "of(1, 5) by " + p, x.of(1, 5), orderOf(-1, p, 0));
+            due(16, "of(1, 5) by " + p, x.of(1, 5), Hashes.orderOf(-1, p, 0));
         }
         x.size(101);
         x.fill();
@@ -733,26 +730,6 @@ public final class KeySharesPromisesTest {
         }
     }
 
-    private static BigInteger bigHash(long x, int k) {
-        BigInteger z = low(big(x).add(BigInteger.valueOf(k).multiply(big(STRIDE))));
-        z = low(z.xor(z.shiftRight(30)).multiply(big(0xBF58476D1CE4E5B9L)));
-        z = low(z.xor(z.shiftRight(27)).multiply(big(0x94D049BB133111EBL)));
-        return z.xor(z.shiftRight(31));
-    }
-
-    private static BigInteger big(long x) {
-        return new BigInteger(Long.toUnsignedString(x));
-    }
-
-    private static BigInteger low(BigInteger z) {
-        return z.mod(BigInteger.ONE.shiftLeft(64));
-    }
-
-    private static int orderOf(long id, int p, int nth) {
-        BigInteger step = bigHash(id, 2).mod(BigInteger.valueOf(p - 1)).add(BigInteger.ONE);
-        return bigHash(id, 1).add(step.multiply(BigInteger.valueOf(nth))).mod(BigInteger.valueOf(p)).intValue();
-    }
-
     private static int greatestOf(KeyShares x, long key, int backends) {
         int chosen = NONE;
         for (int b = 0; b < backends; b++) {
@@ -777,32 +754,5 @@ public final class KeySharesPromisesTest {
             sum += before[k] != after[k] && (without == NONE || before[k] != without) ? 1 : 0;
         }
         return sum;
-    }
-
-    /** Two ids, for weights 1 and 2: the second score of the second is the only score of the first, and its best. */
-    private static long[] idsWithEqualBests(int seed, long key) {
-        long first = seed * 1_000_003L;
-        for (int tries = 0; tries < 1000; tries++) {
-            long u = key ^ Model.hash(first, 4);
-            if (Long.compareUnsigned(Model.hash(u, 1), Model.hash(u, 0)) > 0) {
-                return new long[] {first, unmixed(key ^ (u - STRIDE)) - 4 * STRIDE};
-            }
-            first++;
-        }
-        throw new IllegalStateException("no ids with equal bests");
-    }
-
-    private static long unmixed(long z) {
-        long a = unshifted(z, 31) * inverse(0x94D049BB133111EBL);
-        long b = unshifted(a, 27) * inverse(0xBF58476D1CE4E5B9L);
-        return unshifted(b, 30);
-    }
-
-    private static long unshifted(long z, int bits) {
-        return z ^ (z >>> bits) ^ (z >>> (2 * bits));
-    }
-
-    private static long inverse(long odd) {
-        return big(odd).modInverse(BigInteger.ONE.shiftLeft(64)).longValue();
     }
 }
