@@ -46,7 +46,7 @@ public final class KeyShares {
         if (gone == null) {
             return NONE;
         }
-        backends.dismiss(gone);
+        backends.dismiss(b);
         return shareOutAgain(gone);
     }
 
@@ -357,8 +357,12 @@ public final class KeyShares {
             return NONE;
         }
 
-        void dismiss(Backend gone) {
-            byNumber[gone.number] = null;
+        void dismiss(int b) {
+            Backend gone = numbered(b);
+            if (gone == null) {
+                return;
+            }
+            byNumber[b] = null;
             int kept = 0;
             for (int i = 0; i < held; i++) {
                 if (byId[i] != gone) {

@@ -466,6 +466,10 @@ public final class TermsEdgesTest {
         due.is("room of 4 keys", x.of(0, 3), 5);
         Edges.come(x, 5);
         due.is("room of 5 keys: 6.25", x.of(0, 3), 7);
+        for (long key = 6; key <= 100; key++) {
+            x.come(key);
+        }
+        due.is("room of 100 keys", x.of(0, 3), 125);
     }
 
     /** Three keys that all have the same choice: with slack 0 it is full for the second and not for the third. */
